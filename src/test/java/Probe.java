@@ -17,6 +17,10 @@ final class Probe {
         void run();
     }
 
+    interface CallWith {
+        void run(int argument);
+    }
+
     static void promise(String name) {
         promise = name;
     }
@@ -33,6 +37,15 @@ final class Probe {
         String before = state(g);
         due(what + " throws", thrownBy(call), want);
         due(what + " changes nothing", state(g), before);
+    }
+
+    /** The call throws just this with each of the arguments, and changes nothing. */
+    static void throwsWith(GhostGame g, String want, CallWith call, int... arguments) {
+        String before = state(g);
+        for (int argument : arguments) {
+            due(argument + " throws", thrownBy(() -> call.run(argument)), want);
+        }
+        due("what throws changes nothing", state(g), before);
     }
 
     static String thrownBy(Call call) {
@@ -62,7 +75,8 @@ final class Probe {
 
     static String game(GhostGame g) {
         List<Integer> strikes = new ArrayList<>();
-        for (int player = 0; player < g.players(); player++) {
+        int players = g.players();
+        for (int player = 0; player < players; player++) {
             strikes.add(g.strikes(player));
         }
         return "turn " + g.turn() + " winner " + g.winner() + " strikes " + strikes
@@ -77,7 +91,8 @@ final class Probe {
 
     static String slip(GhostGame g) {
         StringBuilder text = new StringBuilder();
-        for (int i = 0; i < g.slipLength(); i++) {
+        int length = g.slipLength();
+        for (int i = 0; i < length; i++) {
             text.append((char) ('a' + g.slipAt(i)));
         }
         return text.toString();
@@ -85,7 +100,8 @@ final class Probe {
 
     static String fragment(GhostGame g) {
         StringBuilder text = new StringBuilder();
-        for (int i = 0; i < g.fragmentLength(); i++) {
+        int length = g.fragmentLength();
+        for (int i = 0; i < length; i++) {
             text.append((char) ('a' + g.fragmentAt(i)));
         }
         return text.toString();
@@ -94,7 +110,8 @@ final class Probe {
     /** The words in their order, told by copyWord: the slip holds the last one then. */
     static String wordList(GhostGame g) {
         List<String> words = new ArrayList<>();
-        for (int i = 0; i < g.words(); i++) {
+        int count = g.words();
+        for (int i = 0; i < count; i++) {
             g.copyWord(i);
             words.add(slip(g));
         }
@@ -124,6 +141,16 @@ final class Probe {
     static void add(GhostGame g, String words) {
         for (String word : words.split(" ")) {
             spell(g, word);
+            g.addWord();
+        }
+    }
+
+    /** So many words of two letters: az, ay and on to aq, then bz, and on to eq, the fiftieth. */
+    static void addPairs(GhostGame g, int times) {
+        for (int i = 0; i < times; i++) {
+            g.wipe();
+            g.write(i / 10);
+            g.write(25 - i % 10);
             g.addWord();
         }
     }
