@@ -237,12 +237,9 @@ public final class GhostGame {
         }
 
         static boolean beginsWith(long row, long start) {
-            int length = lengthOf(start);
-            return lengthOf(row) >= length && beginning(row, length) == start;
-        }
-
-        static boolean goesOnBehind(long row, long start) {
-            return row != start && beginsWith(row, start);
+            int behind = lengthOf(row) - lengthOf(start);
+            return behind >= 0
+                    && (row & LETTERS_MASK) >>> (LETTER_BITS * behind) == (start & LETTERS_MASK);
         }
 
         static int lengthShared(long one, long other) {
@@ -574,7 +571,8 @@ public final class GhostGame {
         }
 
         private static boolean leadsOn(Dictionary dictionary, long word, long fragment) {
-            return dictionary.isLongEnough(word) && Row.goesOnBehind(word, fragment);
+            return dictionary.isLongEnough(word) && word != fragment
+                    && Row.beginsWith(word, fragment);
         }
 
         private static boolean isWay(Dictionary dictionary, long word, long fragment) {
